@@ -227,10 +227,8 @@ public final class PageWeb {
         list.clear();
         for (int page = 0; page < web.pages(); page++) {
             Change change = web.there(page, time);
-            for (Part part = change == null ? null : change.text.first; part != null; part = part.next) {
-                if (part.isLinkToPage() && web.pageOf(part.goal, time) == NONE) {
-                    list.add(part.goal);
-                }
+            if (change != null) {
+                addWanted(change.text, time);
             }
         }
         return showList();
@@ -478,6 +476,14 @@ public final class PageWeb {
             }
         }
         return there;
+    }
+
+    private void addWanted(Text text, int time) {
+        for (Part part = text.first; part != null; part = part.next) {
+            if (part.isLinkToPage() && web.pageOf(part.goal, time) == NONE) {
+                list.add(part.goal);
+            }
+        }
     }
 
     private void addKindsOf(Name kind, int time) {
