@@ -1238,12 +1238,21 @@ public final class PageWeb {
             if (own >= 0 && own < marks.length) {
                 marks[own] = true;
             }
+            spread(SHOWING, true);
+        }
+
+        void markMembers(boolean allSteps) {
+            spread(LINK, allSteps);
+        }
+
+        /** Marks pages with such parts as lead on to the goal or to a marked page, until there is none more. */
+        private void spread(int sort, boolean allSteps) {
             boolean grown = true;
             for (int round = 0; round < PAGE_MOST && grown; round++) {
                 grown = false;
                 for (int page = 0; page < web.pages() && page < marks.length; page++) {
                     Change change = web.there(page, time);
-                    if (change != null && !marks[page] && hasTouched(change.text)) {
+                    if (change != null && !marks[page] && leadsOn(change.text, sort, allSteps)) {
                         marks[page] = true;
                         grown = true;
                     }
@@ -1251,13 +1260,21 @@ public final class PageWeb {
             }
         }
 
-        private boolean hasTouched(Text text) {
+        private boolean leadsOn(Text text, int sort, boolean allSteps) {
             for (Part part = text.first; part != null; part = part.next) {
-                if (part.sort == SHOWING && passes(part.goal)) {
+                if (part.sort != sort) {
+                    continue;
+                }
+                if (sort == SHOWING ? passes(part.goal) : isMember(part, allSteps)) {
                     return true;
                 }
             }
             return false;
+        }
+
+        private boolean isMember(Part part, boolean allSteps) {
+            return part.isLinkTo(goal)
+                || allSteps && part.isLinkToKind() && isMarked(web.pageOf(part.goal, time));
         }
 
         /** Whether the goal or a marked page comes ONWARD from a NAME, in the end or on the way. */
@@ -1270,32 +1287,6 @@ public final class PageWeb {
                 }
                 Change change = web.there(page, time);
                 at = change == null ? null : change.text.movedTo;
-            }
-            return false;
-        }
-
-        void markMembers(boolean allSteps) {
-            boolean grown = true;
-            for (int round = 0; round < PAGE_MOST && grown; round++) {
-                grown = false;
-                for (int page = 0; page < web.pages() && page < marks.length; page++) {
-                    Change change = web.there(page, time);
-                    if (change != null && !marks[page] && isMember(change.text, allSteps)) {
-                        marks[page] = true;
-                        grown = true;
-                    }
-                }
-            }
-        }
-
-        private boolean isMember(Text text, boolean allSteps) {
-            for (Part part = text.first; part != null; part = part.next) {
-                if (part.isLinkTo(goal)) {
-                    return true;
-                }
-                if (allSteps && part.isLinkToKind() && isMarked(web.pageOf(part.goal, time))) {
-                    return true;
-                }
             }
             return false;
         }

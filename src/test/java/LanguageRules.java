@@ -25,11 +25,10 @@ public final class LanguageRules {
     }
 
     private static void words(String code) {
-        String[] banned = {"throw", "throws", "try", "catch", "synchronized", "assert", "protected", "Exact", "HashMap",
+        String[] banned = {"throw", "throws", "try", "catch", "synchronized", "assert", "protected", "\\w+Exact", "HashMap",
             "Object", "equals", "hashCode", "toString", "Random", "Thread", "NaN", "volatile", "native"};
         for (String word : banned) {
-            must(!Pattern.compile("\\b\\w*" + (word.equals("Exact") ? "" : "\\b") + word + "\\b").matcher(code).find(),
-                "the word " + word);
+            must(!Pattern.compile("\\b" + word + "\\b").matcher(code).find(), "the word " + word);
         }
         must(!code.contains("->"), "an arrow");
         must(!code.contains("::"), "a method reference");

@@ -178,7 +178,7 @@ public final class PromiseTests {
 
     private static void name() {
         String[] none = {"", " ", "___", "kind:", "kind: _", "kind :a", "a!b", "a:b", "a-b", "abcdefghijklmnopq",
-            "kind:abcdefghijklmnopq", "kind:kind:a", "a\nb", "\ta", "kinds:a", ":a", "\u00e9", "kind:a:"};
+            "kind:abcdefghijklmnopq", "kind:kind:a", "a\nb", "\ta", "kinds:a", "mind:a", ":a", "\u00e9", "kind:a:"};
         for (String s : none) {
             Desk desk = new Desk();
             due("name \"" + s + "\"", desk.name(s), -1);
@@ -361,7 +361,6 @@ public final class PromiseTests {
         desk.web.gone(0);
         desk.name("p0");
         due("still too many", desk.move("p1"), -3);
-        desk.web.as(3);
         desk = new Desk();
         desk.put("a", "x");
         for (int c = 2; c <= 118; c++) {
@@ -369,6 +368,14 @@ public final class PromiseTests {
         }
         due("just enough CHANGES", desk.move("b"), 2);
         due("count(0)", desk.web.count(0), 120);
+        desk = new Desk();
+        desk.put("m", "#to [[a]]");
+        desk.put("a", "x");
+        for (int c = 3; c <= 118; c++) {
+            desk.write("" + c);
+        }
+        due("too many by one that is MOVED", desk.move("b"), -3);
+        due("count(0)", desk.web.count(0), 118);
     }
 
     private static void rename() {
