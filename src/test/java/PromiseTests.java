@@ -1,99 +1,16 @@
-import java.util.ArrayList;
 import java.util.List;
 
 /** For each promise of the document what it asks for: ordinary calls, its edges, and wrong ones. */
 public final class PromiseTests {
-    private static int wrong = 0;
     private static int promise = 0;
 
     private static void due(String what, Object got, Object want) {
-        if (!got.equals(want)) {
-            wrong++;
-            System.out.println("promise " + promise + ": " + what + " answered " + got + ", due is " + want);
-        }
+        Due.is(what, got, want);
     }
 
-    /** A PageWeb that is fed with texts and tells what OUT and FOUND are. */
-    private static final class Desk {
-        final PageWeb web = new PageWeb();
-
-        void tape(String s) {
-            web.end(0);
-            for (int from = 0; from < s.length(); from += 20) {
-                int[] n = new int[5];
-                for (int i = 0; i < 20; i++) {
-                    n[i / 4] = n[i / 4] << 8 | (from + i < s.length() ? s.charAt(from + i) & 255 : ' ');
-                }
-                web.feed(n[0], n[1], n[2], n[3], n[4]);
-            }
-            web.end(s.length());
-        }
-
-        int name(String s) {
-            tape(s);
-            return web.name();
-        }
-
-        int write(String s) {
-            tape(s);
-            return web.write(0);
-        }
-
-        int put(String name, String s) {
-            name(name);
-            return write(s);
-        }
-
-        int move(String s) {
-            tape(s);
-            return web.move(0);
-        }
-
-        int rename(String s) {
-            tape(s);
-            return web.rename(0);
-        }
-
-        String out() {
-            StringBuilder all = new StringBuilder();
-            for (int i = 0; i < web.count(3); i++) {
-                all.append((char) web.out(i));
-            }
-            return all.toString();
-        }
-
-        List<Integer> found() {
-            List<Integer> all = new ArrayList<>();
-            for (int k = 0; k < web.count(2); k++) {
-                all.add(web.found(k));
-            }
-            return all;
-        }
-
-        String text(int page) {
-            return web.text(page) < 0 ? "none" : out();
-        }
-
-        String show(int page) {
-            int n = web.show(page);
-            return n < 0 ? "answer " + n : out();
-        }
-
-        String change(int c) {
-            StringBuilder all = new StringBuilder();
-            for (int what = 0; what < 5; what++) {
-                all.append(what == 0 ? "" : " ").append(web.change(c, what));
-            }
-            return all.toString();
-        }
-
-        String blame(int page) {
-            StringBuilder all = new StringBuilder();
-            for (int i = 0; web.blame(page, i) >= 0; i++) {
-                all.append(i == 0 ? "" : " ").append(web.blame(page, i));
-            }
-            return all.toString();
-        }
+    private static void next() {
+        promise++;
+        Due.by("promise " + promise);
     }
 
     private static String times(String s, int n) {
@@ -244,9 +161,8 @@ public final class PromiseTests {
         due("a 17th page still", desk.put("q", "x"), -3);
         due("its number is its own", desk.put("p3", "y"), 21);
         due("page", desk.web.change(21, 0), 3);
-        for (int c = 22; c <= 120; c++) {
-            due("write", desk.write("" + c), c);
-        }
+        desk.fillTo(119);
+        due("write", desk.write("x"), 120);
         due("a 121st CHANGE", desk.write("x"), -3);
         due("gone", desk.web.gone(0), -3);
         due("back", desk.web.back(120, 0), -3);
@@ -977,59 +893,59 @@ public final class PromiseTests {
     }
 
     public static void main(String[] args) {
-        promise = 1;
+        next();
         newObject();
-        promise++;
+        next();
         feed();
-        promise++;
+        next();
         end();
-        promise++;
+        next();
         take();
-        promise++;
+        next();
         name();
-        promise++;
+        next();
         write();
-        promise++;
+        next();
         gone();
-        promise++;
+        next();
         move();
-        promise++;
+        next();
         rename();
-        promise++;
+        next();
         as();
-        promise++;
+        next();
         count();
-        promise++;
+        next();
         found();
-        promise++;
+        next();
         out();
-        promise++;
+        next();
         named();
-        promise++;
+        next();
         text();
-        promise++;
+        next();
         read();
-        promise++;
+        next();
         show();
-        promise++;
+        next();
         onward();
-        promise++;
+        next();
         from();
-        promise++;
+        next();
         wanted();
-        promise++;
+        next();
         touch();
-        promise++;
+        next();
         within();
-        promise++;
+        next();
         members();
-        promise++;
+        next();
         blame();
-        promise++;
+        next();
         change();
-        promise++;
+        next();
         back();
         due("promises gone through", promise, 26);
-        System.exit(wrong > 0 ? 1 : 0);
+        Due.exit();
     }
 }
