@@ -200,8 +200,7 @@ public final class PageWeb {
         if (web.there(page, now()) == null) {
             return NONE;
         }
-        maker.begin(now());
-        maker.make(page, 0);
+        maker.makeWhole(page, now());
         if (maker.spent) {
             return TOO_MUCH;
         }
@@ -1077,7 +1076,13 @@ public final class PageWeb {
             this.web = web;
         }
 
-        void begin(int asked) {
+        /** The MADE text of a page without WORDS is in made, unless it is spent. */
+        void makeWhole(int page, int asked) {
+            begin(asked);
+            make(page, 0);
+        }
+
+        private void begin(int asked) {
             time = asked;
             showings = 0;
             spent = false;
@@ -1092,7 +1097,7 @@ public final class PageWeb {
         }
 
         /** level: how many other pages are being MADE. */
-        void make(int page, int level) {
+        private void make(int page, int level) {
             Change change = web.there(page, time);
             if (change == null || page >= making.length || level >= MAKING_MOST) {
                 return;

@@ -99,6 +99,7 @@ public final class NameTextBounds {
         for (int n = 17; n <= 30; n++) {
             noName("kind:" + "a".repeat(n), "kind: " + "a".repeat(n));
         }
+        noName("mind:a", "kund:a", "kild:a", "kins:a", "kind;a", "kind?a", "kind/a");
         noName("kind:" + SIXTEEN_BLANK + "p", "kind :a", "kind_:a", "kind::a", "kind: :a", "kind:a:", "kind:a:b",
             "kind:kind:a", "kin:a", "ind:a", "k ind:a", "kindx:a", "xkind:a", ":a", "a:", "kinds:a");
     }
