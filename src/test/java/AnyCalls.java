@@ -5,13 +5,17 @@ public final class AnyCalls {
     private static final int[] EDGES = {Integer.MIN_VALUE, Integer.MIN_VALUE + 1, -401, -3, -2, -1, 0, 1, 2, 3, 4, 5, 8, 9, 10, 15, 16,
         17, 119, 120, 121, 255, 256, 299, 300, 301, 399, 400, 401, 1935, 1936, 1999, 2000, 2001, Integer.MAX_VALUE - 1, Integer.MAX_VALUE};
     private static final String[] PIECES = {"[[a]]", "{{a}}", "#to [[b]]", "{{b|$1$1$1$1$1|$2}}", "[[kind:a]]", "[[kind:b|$1]]", "a", "b",
-        "kind:a", "kind:b", " ", "$1", "|", "[[", "]]", "{{", "}}", "\n", "c", "{{c|{{a}}|$9}}", "\u0000", "\u00ff", "x".repeat(60)};
+        "kind:a", "kind:b", " ", "$1", "|", "[[", "]]", "{{", "}}", "\n", "c", "{{c|{{a}}|$9}}", "[[C|$1$1]]", "{{kind:b|$1}}",
+        "{{d}}", "d", "x".repeat(60)};
+    private static final String[] NO_TEXT = {"\u0000", "\u00ff", "\t", "\u007f", "y".repeat(301)};
+    private static final String[] NAMES = {"a", "b", "c", "d", "kind:a", "kind:b", " A_ b", "Kind: _c", "abcdefghijklmnop", "0"};
 
     private final Random random;
     private final Calls web = new Calls();
 
     private AnyCalls(long seed) {
-        random = new Random(seed);
+        // Random begins alike from seeds that lie side by side.
+        random = new Random(seed * 0x9E3779B97F4A7C15L);
     }
 
     private int any() {
@@ -29,11 +33,27 @@ public final class AnyCalls {
         return random.nextInt(8) == 0 ? any() : random.nextInt(10);
     }
 
-    private void feedSome() {
-        String s = PIECES[random.nextInt(PIECES.length)];
-        while (random.nextInt(3) > 0 && s.length() < 380) {
-            s += PIECES[random.nextInt(PIECES.length)];
+    private static String one(Random random, String[] of) {
+        return of[random.nextInt(of.length)];
+    }
+
+    private void feedName() {
+        if (random.nextInt(10) == 0) {
+            feedSome();
+        } else {
+            feed(one(random, NAMES) + (random.nextInt(4) == 0 ? random.nextInt(10) : ""));
         }
+    }
+
+    private void feedSome() {
+        String s = one(random, random.nextInt(20) == 0 ? NO_TEXT : PIECES);
+        while (random.nextInt(3) > 0 && s.length() < 380) {
+            s += one(random, PIECES);
+        }
+        feed(s);
+    }
+
+    private void feed(String s) {
         for (int from = 0; from < s.length(); from += 20) {
             int[] n = new int[5];
             for (int i = 0; i < 20; i++) {
@@ -86,10 +106,10 @@ public final class AnyCalls {
     private int change() {
         switch (random.nextInt(9)) {
             case 0:
-                feedSome();
+                feedName();
                 return web.move(hand());
             case 1:
-                feedSome();
+                feedName();
                 return web.rename(hand());
             case 2:
                 return web.gone(hand());
@@ -97,7 +117,7 @@ public final class AnyCalls {
                 return web.back(any(), hand());
             case 4:
             case 5:
-                feedSome();
+                feedName();
                 return web.name();
             default:
                 feedSome();

@@ -586,12 +586,16 @@ public final class ModelRuns {
     private final int nameCount;
     private final int changing;
     private final int longOnes;
+    /** What fills this run's long TEXTS: 0 SHOWINGS, 1 LINKS, 2 LINKS to KINDS; beyond these it has none. */
+    private final int filling;
 
     private ModelRuns(long seed) {
-        random = new Random(seed);
+        // Random begins alike from seeds that lie side by side.
+        random = new Random(seed * 0x9E3779B97F4A7C15L);
         nameCount = 3 + random.nextInt(NAMES.length - 2);
         changing = 2 + random.nextInt(5);
         longOnes = 1 + random.nextInt(12);
+        filling = random.nextInt(8);
     }
 
     private boolean chance(int in) {
@@ -612,6 +616,9 @@ public final class ModelRuns {
         String s = NAMES[random.nextInt(Math.min(nameCount, NAMES.length))];
         if (longOnes == 1 && chance(2)) {
             s = (chance(3) ? "kind:" : "") + Integer.toString(random.nextInt(2000), 36) + " and more";
+        }
+        if (filling == 2 && chance(2)) {
+            s = "kind:" + (char) ('a' + random.nextInt(12));
         }
         if (chance(6)) {
             s = s.replace(' ', '_');
@@ -645,7 +652,29 @@ public final class ModelRuns {
         }
     }
 
+    /** Alike pieces up to about as many bytes as a TEXT may have, so that what is made of it may be too much. */
+    private String longText() {
+        StringBuilder all = new StringBuilder();
+        int most = chance(2) ? 285 + random.nextInt(20) : 300;
+        while (all.length() < most) {
+            String piece = "[[" + (filling == 2 ? "kind:" : "") + "long name " + Integer.toString(random.nextInt(30000), 36) + "]]";
+            if (filling == 0) {
+                piece = chance(3) ? "$1$2" : randomPiece();
+            } else if (chance(6)) {
+                piece = "[[" + randomName() + "]]";
+            }
+            if (all.length() + piece.length() > 300 && chance(2)) {
+                break;
+            }
+            all.append(piece);
+        }
+        return all.toString();
+    }
+
     private String randomText() {
+        if (filling < 3 && chance(2)) {
+            return longText();
+        }
         if (chance(4)) {
             return "#to [[" + randomName() + (chance(4) ? "|lab" : "") + "]]" + (chance(10) ? "x" : "");
         }
